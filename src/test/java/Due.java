@@ -1,0 +1,125 @@
+import java.math.BigDecimal;
+import java.math.BigInteger;
+
+/** What the tests share: counting wrong answers, and ways to bring a decimal into an object. */
+final class Due {
+    static final String NOTHING = "nothing";
+    static final String ILLEGAL = "IllegalArgumentException";
+    static final String INDEX = "IndexOutOfBoundsException";
+    static final String ARITHMETIC = "ArithmeticException";
+
+    interface Call {
+        void run();
+    }
+
+    private static int wrong = 0;
+    private static int asked = 0;
+
+    private Due() {
+    }
+
+    static void same(String call, long got, long want) {
+        asked++;
+        if (got != want) {
+            wrong++;
+            System.out.println(call + " answered " + got + ", due is " + want);
+        }
+    }
+
+    static void same(String call, String got, String want) {
+        asked++;
+        if (!got.equals(want)) {
+            wrong++;
+            System.out.println(call + " answered " + got + ", due is " + want);
+        }
+    }
+
+    /** The exact class that a call throws, for a subclass is not what the document says. */
+    static String thrownBy(Call call) {
+        try {
+            call.run();
+            return NOTHING;
+        } catch (RuntimeException e) {
+            return e.getClass().getSimpleName();
+        }
+    }
+
+    static void throwing(String what, String want, Call call) {
+        same(what + " throws", thrownBy(call), want);
+    }
+
+    /** Like throwing, and the object is afterwards as it was. */
+    static void refused(DecimalTruth x, String what, String want, Call call) {
+        String before = text(x);
+        throwing(what, want, call);
+        same("what is kept after " + what, text(x), before);
+    }
+
+    /** The whole of what can be seen without a change. */
+    static String text(DecimalTruth x) {
+        StringBuilder out = new StringBuilder(x.count(2) == 1 ? "-" : "+");
+        out.append("0.");
+        for (int i = 0; i < x.count(0); i++) {
+            out.append(x.look(i));
+        }
+        return out.append("e").append(x.count(1)).toString();
+    }
+
+    static String text(boolean minus, BigDecimal size) {
+        String sign = minus ? "-" : "+";
+        if (size.signum() == 0) {
+            return sign + "0.e0";
+        }
+        BigDecimal plain = size.stripTrailingZeros();
+        return sign + "0." + plain.unscaledValue() + "e" + (plain.precision() - plain.scale());
+    }
+
+    static void kept(String when, DecimalTruth x, String want) {
+        same("what is kept after " + when, text(x), want);
+    }
+
+    static void type(DecimalTruth x, String digits) {
+        for (int i = 0; i < digits.length(); i++) {
+            x.digit(digits.charAt(i) - '0');
+        }
+    }
+
+    static DecimalTruth typed(boolean minus, int place, String digits) {
+        DecimalTruth x = new DecimalTruth();
+        x.clear(minus, place);
+        type(x, digits);
+        return x;
+    }
+
+    /** An object that keeps this size; more digits than calls are left for are not asked for here. */
+    static DecimalTruth typed(BigDecimal size) {
+        BigDecimal plain = size.stripTrailingZeros();
+        return typed(false, plain.precision() - plain.scale(), plain.unscaledValue().toString());
+    }
+
+    static DecimalTruth set(double d) {
+        DecimalTruth x = new DecimalTruth();
+        x.set(Double.doubleToRawLongBits(d));
+        return x;
+    }
+
+    /** The middle of a double of 0 or more and the next one, also of the largest one and 2 ** 1024. */
+    static BigDecimal middleAbove(double d) {
+        return new BigDecimal(d).add(new BigDecimal(Math.ulp(d)).divide(BigDecimal.valueOf(2)));
+    }
+
+    static BigDecimal power(int ten) {
+        return new BigDecimal(BigInteger.ONE, -ten);
+    }
+
+    static String repeat(char c, int times) {
+        return String.valueOf(c).repeat(times);
+    }
+
+    static void end() {
+        System.out.println(asked + " answers looked at, " + wrong + " wrong");
+        if (wrong != 0 || asked == 0) {
+            System.exit(1);
+        }
+    }
+}

@@ -1,0 +1,113 @@
+import java.math.BigDecimal;
+import java.math.RoundingMode;
+
+/** Promise 6: rounding to a number of digits behind the point. */
+public final class PlacesTest {
+    public static void main(String[] args) {
+        roundsBehindThePoint();
+        roundsBeforeThePoint();
+        roundsAtTheFirstDigit();
+        roundsBeforeTheFirstDigit();
+        keepsWhatHasNoMore();
+        roundsAtTheOuterPlaces();
+        roundsLongOnes();
+        forgetsWhatCame();
+        refusesOtherNumbers();
+        Due.end();
+    }
+
+    private static void rounds(int place, String digits, int n, String want) {
+        DecimalTruth x = Due.typed(true, place, digits);
+        String call = digits + "e" + place + ", places(" + n + ")";
+        int length = want.indexOf('e') - 3;
+        Due.same(call, x.places(n), length);
+        Due.kept(call, x, want);
+    }
+
+    private static void roundsBehindThePoint() {
+        rounds(2, "1234", 1, "-0.123e2");
+        rounds(2, "1236", 1, "-0.124e2");
+        rounds(2, "1225", 1, "-0.122e2");
+        rounds(2, "1235", 1, "-0.124e2");
+        rounds(2, "122501", 1, "-0.123e2");
+        rounds(2, "9996", 1, "-0.1e3");
+        rounds(2, "1204", 1, "-0.12e2");
+        rounds(-3, "4567", 5, "-0.46e-3");
+    }
+
+    private static void roundsBeforeThePoint() {
+        rounds(4, "123456", -2, "-0.12e4");
+        rounds(4, "125", -2, "-0.12e4");
+        rounds(4, "135", -2, "-0.14e4");
+        rounds(4, "9951", -2, "-0.1e5");
+        rounds(4, "123456", 0, "-0.1235e4");
+    }
+
+    private static void roundsAtTheFirstDigit() {
+        rounds(0, "5", 0, "-0.e0");
+        rounds(0, "51", 0, "-0.1e1");
+        rounds(0, "50000000000000000001", 0, "-0.1e1");
+        rounds(0, "4999", 0, "-0.e0");
+        rounds(0, "6", 0, "-0.1e1");
+        rounds(-4, "7", 4, "-0.1e-3");
+        rounds(3, "7", -3, "-0.1e4");
+        rounds(3, "5", -3, "-0.e0");
+    }
+
+    private static void roundsBeforeTheFirstDigit() {
+        rounds(0, "99", -1, "-0.e0");
+        rounds(-1, "99", 0, "-0.e0");
+        rounds(-1000, "9", 0, "-0.e0");
+        rounds(3, "99", -1000, "-0.e0");
+    }
+
+    private static void keepsWhatHasNoMore() {
+        rounds(2, "1234", 2, "-0.1234e2");
+        rounds(2, "1234", 2000, "-0.1234e2");
+        rounds(9, "12", -7, "-0.12e9");
+        rounds(9, "", 0, "-0.e0");
+        rounds(9, "", -5, "-0.e0");
+    }
+
+    private static void roundsAtTheOuterPlaces() {
+        rounds(1000, "6", -1000, "-0.1e1001");
+        rounds(1000, "5", -1000, "-0.e0");
+        rounds(1000, "96", -999, "-0.1e1001");
+        rounds(-1000, "12", 1001, "-0.1e-1000");
+        rounds(-1000, "012", 1002, "-0.1e-1001");
+        rounds(-1000, "06", 1001, "-0.1e-1000");
+    }
+
+    private static void roundsLongOnes() {
+        for (double d : new double[] {Double.MIN_VALUE, 1e-300, Math.PI, Math.E * 1e10, Double.MAX_VALUE}) {
+            for (int n = 1100; n >= -320; n -= 13) {
+                DecimalTruth x = Due.set(d);
+                x.places(n);
+                BigDecimal size = new BigDecimal(d).setScale(n, RoundingMode.HALF_EVEN);
+                Due.kept(d + " places(" + n + ")", x, Due.text(false, size));
+            }
+        }
+    }
+
+    private static void forgetsWhatCame() {
+        DecimalTruth x = Due.typed(false, 3, "4200");
+        Due.same("places(2000) with zeros in mind", x.places(2000), 2);
+        x.digit(1);
+        Due.kept("zeros in mind, places(2000), digit(1)", x, "+0.421e3");
+        DecimalTruth zero = Due.typed(true, 9, "");
+        Due.same("places(4) of 0", zero.places(4), 0);
+        zero.digit(1);
+        Due.kept("clear(true, 9), places(4), digit(1)", zero, "-0.1e0");
+        DecimalTruth gone = Due.typed(true, 9, "1");
+        gone.places(-20);
+        gone.digit(1);
+        Due.kept("1e8, places(-20), digit(1)", gone, "-0.1e0");
+    }
+
+    private static void refusesOtherNumbers() {
+        DecimalTruth x = Due.typed(true, 0, "123");
+        for (int n : new int[] {-1001, 2001, Integer.MIN_VALUE, Integer.MAX_VALUE}) {
+            Due.refused(x, "places(" + n + ")", Due.ILLEGAL, () -> x.places(n));
+        }
+    }
+}
