@@ -16,7 +16,7 @@ public final class DecimalTruth {
     private static final int LOWEST_PLACE_OF_A_DOUBLE = -323;
 
     private static final long SIGN_BIT = 0x8000000000000000L;
-    /** The bits of no double's size but the infinite one's; also the answer for what is BEYOND. */
+    /** From these bits on a size is infinite or no number; also what stands for BEYOND. */
     private static final long INFINITE = 0x7FF0000000000000L;
     private static final int FRACTION_BITS = 52;
     private static final long FRACTION_MASK = (1L << FRACTION_BITS) - 1;
@@ -207,7 +207,7 @@ public final class DecimalTruth {
         return even ? inside >= 0 : inside > 0;
     }
 
-    /** The middle of the double with this size and the next one, which has a last bit of the same power. */
+    /** The middle of a double and the next one, which is farther by one last bit of the first. */
     private void spellMiddleAbove(long size, Decimal into) {
         spell(2 * factorOf(size) + 1, powerOf(size) - 1, into);
     }
@@ -354,7 +354,7 @@ public final class DecimalTruth {
         };
         /** 315 digits before the point; a double has up to 309. */
         private static final int BEFORE_POINT = 35;
-        /** 1125 digits behind it: a middle of two doubles has up to 1075, 323 zeros and 800 digits are 1123. */
+        /** 1125 digits behind it; a middle of two doubles has up to 1075, a decimal up to 323 + 800. */
         private static final int ALL = BEFORE_POINT + 125;
 
         private final long[] rows = new long[ALL];
@@ -473,7 +473,7 @@ public final class DecimalTruth {
             return roundHead(head, more, topBit);
         }
 
-        /** Rounding up at the last fraction goes on into the exponent by itself: so doubles are ordered. */
+        /** The next double has the next bits, also where its exponent is another: so 1 more is one up. */
         private static long roundHead(long head, boolean more, int topBit) {
             int power = Math.max(topBit - FRACTION_BITS, LOWEST_POWER);
             int bits = topBit - power + 1;

@@ -78,6 +78,12 @@ final class Due {
         same("what is kept after " + when, text(x), want);
     }
 
+    /** A call that rounds answered how many digits there are now, and this is kept. */
+    static void rounded(String call, DecimalTruth x, int got, String want) {
+        same(call, got, want.indexOf('e') - "+0.".length());
+        kept(call, x, want);
+    }
+
     static void type(DecimalTruth x, String digits) {
         for (int i = 0; i < digits.length(); i++) {
             x.digit(digits.charAt(i) - '0');

@@ -10,6 +10,7 @@ public final class EnoughTest {
         mayHoldWithFewerAndFailWithMore();
         hasTheMiddleOnlyIfEven();
         countsBeyondAsAnother();
+        comparesWithNothingOfEarlierCalls();
         isZeroForZero();
         roundsAndForgets();
         refusesWhatIsBeyond();
@@ -17,8 +18,7 @@ public final class EnoughTest {
     }
 
     private static void shortens(String what, DecimalTruth x, String want) {
-        Due.same(what + ", enough()", x.enough(), want.indexOf('e') - 3);
-        Due.kept(what + ", enough()", x, want);
+        Due.rounded(what + ", enough()", x, x.enough(), want);
     }
 
     private static void shortensDoubles() {
@@ -63,7 +63,8 @@ public final class EnoughTest {
                 }
                 DecimalTruth x = Due.typed(new BigDecimal(text));
                 Due.same(text + ", enough()", x.enough(), leastBySearch(text));
-                Due.kept(text + ", enough()", x, Due.text(false, Model.rounded(new BigDecimal(text), x.count(0))));
+                BigDecimal rounded = Model.rounded(new BigDecimal(text), x.count(0));
+                Due.kept(text + ", enough()", x, Due.text(false, rounded));
             }
         }
         Due.same("some case of fewer digits that hold where more fail was among them", found > 0 ? 1 : 0, 1);
@@ -90,20 +91,40 @@ public final class EnoughTest {
     private static void hasTheMiddleOnlyIfEven() {
         // 10 ** 23 is a middle; the double below it is even and has it, the one above it is odd.
         shortens("1e23 less a bit", Due.typed(false, 23, "99999999999999999999"), "+0.1e24");
-        shortens("1e23 and a bit", Due.typed(false, 24, "1000000000000000000001"), "+0.1000000000000000000001e24");
+        shortens("1e23 and a bit", Due.typed(false, 24, "1000000000000000000001"),
+            "+0.1000000000000000000001e24");
         // 9007199254740995 is the middle of an odd one below and an even one above.
-        shortens("2 ** 53 + 3 less a bit", Due.typed(false, 16, "90071992547409949"), "+0.90071992547409949e16");
+        shortens("2 ** 53 + 3 less a bit", Due.typed(false, 16, "90071992547409949"),
+            "+0.90071992547409949e16");
         shortens("2 ** 53 + 3", Due.typed(false, 16, "9007199254740995"), "+0.9007199254740995e16");
-        shortens("2 ** 53 + 3 and a bit", Due.typed(false, 16, "90071992547409951"), "+0.9007199254740995e16");
+        shortens("2 ** 53 + 3 and a bit", Due.typed(false, 16, "90071992547409951"),
+            "+0.9007199254740995e16");
     }
 
     private static void countsBeyondAsAnother() {
-        shortens("17976931348623158e292", Due.typed(false, 309, "17976931348623158"), "+0.17976931348623158e309");
+        shortens("17976931348623158e292", Due.typed(false, 309, "17976931348623158"),
+            "+0.17976931348623158e309");
         String almost = Due.middleAbove(Double.MAX_VALUE).subtract(BigDecimal.ONE).toString();
         DecimalTruth x = Due.typed(false, 309, almost);
         int n = x.enough();
         Due.same("just not beyond, enough()", n, leastBySearch(almost));
-        Due.same("just not beyond, enough(), nearest()", x.nearest(), Double.doubleToRawLongBits(Double.MAX_VALUE));
+        long largest = Double.doubleToRawLongBits(Double.MAX_VALUE);
+        Due.same("just not beyond, enough(), nearest()", x.nearest(), largest);
+    }
+
+    /** Rows are used again: digits of a longer decimal still stand in them behind a shorter one. */
+    private static void comparesWithNothingOfEarlierCalls() {
+        String[] middles = {"9007199254740993", "9007199254740995", "9007199254740997", "18014398509481986"};
+        DecimalTruth x = new DecimalTruth();
+        for (int i = 0; i < 8; i++) {
+            String middle = middles[i / 2];
+            x.set(Double.doubleToRawLongBits(Math.nextUp(Double.MIN_NORMAL)));
+            x.enough();
+            x.clear(false, middle.length());
+            Due.type(x, middle + (i % 2 == 0 ? "000001" : "04999996"));
+            int want = leastBySearch(middle + (i % 2 == 0 ? ".000001" : ".04999996"));
+            Due.same(middle + " and a bit, enough() on a used object", x.enough(), want);
+        }
     }
 
     private static void isZeroForZero() {

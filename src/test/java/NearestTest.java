@@ -16,6 +16,7 @@ public final class NearestTest {
         decidesAroundZero();
         knowsWhatIsBeyond();
         answersForEveryPlace();
+        answersForTheLongestOnes();
         keepsTheSign();
         changesNothing();
         Due.end();
@@ -96,6 +97,23 @@ public final class NearestTest {
                 is("0." + digits + "e" + place, Due.typed(false, place, digits), want);
             }
         }
+    }
+
+    private static void answersForTheLongestOnes() {
+        for (double d : EDGES) {
+            DecimalTruth x = Due.set(d);
+            for (int calls = 1; calls < 500 && x.count(0) < 800; calls++) {
+                x.digit(7);
+            }
+            is(d + " and sevens", x, Double.parseDouble(Due.text(x)));
+        }
+        for (int place : new int[] {-1000, -999, -700, -330, -325, -324}) {
+            is("many nines e" + place, Due.typed(true, place, Due.repeat('9', 500)), -0.0);
+        }
+        DecimalTruth lowest = Due.typed(false, -1000, "0" + Due.repeat('9', 500));
+        is("many nines e-1001", lowest, 0.0);
+        DecimalTruth highest = Due.typed(false, 1000, Due.repeat('9', 500));
+        Due.throwing("many nines e1000, nearest()", Due.ARITHMETIC, () -> highest.nearest());
     }
 
     private static void keepsTheSign() {

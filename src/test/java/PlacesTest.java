@@ -18,10 +18,7 @@ public final class PlacesTest {
 
     private static void rounds(int place, String digits, int n, String want) {
         DecimalTruth x = Due.typed(true, place, digits);
-        String call = digits + "e" + place + ", places(" + n + ")";
-        int length = want.indexOf('e') - 3;
-        Due.same(call, x.places(n), length);
-        Due.kept(call, x, want);
+        Due.rounded(digits + "e" + place + ", places(" + n + ")", x, x.places(n), want);
     }
 
     private static void roundsBehindThePoint() {

@@ -19,10 +19,7 @@ public final class RoundTest {
 
     private static void rounds(int place, String digits, int n, String want) {
         DecimalTruth x = Due.typed(true, place, digits);
-        String call = digits + "e" + place + ", round(" + n + ")";
-        int length = want.indexOf('e') - 3;
-        Due.same(call, x.round(n), length);
-        Due.kept(call, x, want);
+        Due.rounded(digits + "e" + place + ", round(" + n + ")", x, x.round(n), want);
     }
 
     private static void roundsToTheNearest() {
