@@ -12,25 +12,31 @@ final class Due {
         void run();
     }
 
+    interface Change {
+        void on(Run x);
+    }
+
+    private static String sentence = "";
     private static int wrong = 0;
     private static int asked = 0;
 
     private Due() {
     }
 
+    /** The document's words that the answers from here on are due by; a wrong one is printed with them. */
+    static void says(String words) {
+        sentence = words;
+    }
+
     static void same(String call, long got, long want) {
-        asked++;
-        if (got != want) {
-            wrong++;
-            System.out.println(call + " answered " + got + ", due is " + want);
-        }
+        same(call, Long.toString(got), Long.toString(want));
     }
 
     static void same(String call, String got, String want) {
         asked++;
         if (!got.equals(want)) {
             wrong++;
-            System.out.println(call + " answered " + got + ", due is " + want);
+            System.out.println(call + " answered " + got + ", due is " + want + " (" + sentence + ")");
         }
     }
 
@@ -49,20 +55,10 @@ final class Due {
     }
 
     /** Like throwing, and the object is afterwards as it was. */
-    static void refused(DecimalTruth x, String what, String want, Call call) {
-        String before = text(x);
+    static void refused(Run x, String what, String want, Call call) {
+        String before = x.keptAndInMind();
         throwing(what, want, call);
-        same("what is kept after " + what, text(x), before);
-    }
-
-    /** The whole of what can be seen without a change. */
-    static String text(DecimalTruth x) {
-        StringBuilder out = new StringBuilder(x.count(2) == 1 ? "-" : "+");
-        out.append("0.");
-        for (int i = 0; i < x.count(0); i++) {
-            out.append(x.look(i));
-        }
-        return out.append("e").append(x.count(1)).toString();
+        same("what is kept after " + what, x.keptAndInMind(), before);
     }
 
     static String text(boolean minus, BigDecimal size) {
@@ -74,38 +70,48 @@ final class Due {
         return sign + "0." + plain.unscaledValue() + "e" + (plain.precision() - plain.scale());
     }
 
-    static void kept(String when, DecimalTruth x, String want) {
-        same("what is kept after " + when, text(x), want);
+    static void kept(String when, Run x, String want) {
+        same("what is kept after " + when, x.kept(), want);
     }
 
     /** A call that rounds answered how many digits there are now, and this is kept. */
-    static void rounded(String call, DecimalTruth x, int got, String want) {
+    static void rounded(String call, Run x, int got, String want) {
         same(call, got, want.indexOf('e') - "+0.".length());
         kept(call, x, want);
     }
 
-    static void type(DecimalTruth x, String digits) {
+    static void type(Run x, String digits) {
         for (int i = 0; i < digits.length(); i++) {
             x.digit(digits.charAt(i) - '0');
         }
     }
 
-    static DecimalTruth typed(boolean minus, int place, String digits) {
-        DecimalTruth x = new DecimalTruth();
+    static Run typed(boolean minus, int place, String digits) {
+        Run x = new Run();
         x.clear(minus, place);
         type(x, digits);
         return x;
     }
 
     /** An object that keeps this size; more digits than calls are left for are not asked for here. */
-    static DecimalTruth typed(BigDecimal size) {
+    static Run typed(BigDecimal size) {
         BigDecimal plain = size.stripTrailingZeros();
         return typed(false, plain.precision() - plain.scale(), plain.unscaledValue().toString());
     }
 
-    static DecimalTruth set(double d) {
-        DecimalTruth x = new DecimalTruth();
+    static Run set(double d) {
+        Run x = new Run();
         x.set(Double.doubleToRawLongBits(d));
+        return x;
+    }
+
+    /** The double with the most digits, 767. */
+    static Run longest() {
+        return set(Math.nextDown(2 * Double.MIN_NORMAL));
+    }
+
+    static Run changed(Run x, Change by) {
+        by.on(x);
         return x;
     }
 

@@ -12,16 +12,20 @@ public final class EnoughTest {
         countsBeyondAsAnother();
         comparesWithNothingOfEarlierCalls();
         isZeroForZero();
+        isZeroTillHalfOfTheLeast();
+        shortens800Digits();
         roundsAndForgets();
         refusesWhatIsBeyond();
         Due.end();
     }
 
-    private static void shortens(String what, DecimalTruth x, String want) {
+    private static void shortens(String what, Run x, String want) {
         Due.rounded(what + ", enough()", x, x.enough(), want);
     }
 
     private static void shortensDoubles() {
+        Due.says("the least n so that the DECIMAL ROUNDED to n digits"
+            + " has the same NEAREST double as it has itself");
         shortens("0.1", Due.set(0.1), "+0.1e0");
         shortens("-0.3", Due.set(-0.3), "-0.3e0");
         shortens("1/3", Due.set(1.0 / 3), "+0.3333333333333333e0");
@@ -44,7 +48,7 @@ public final class EnoughTest {
         shortens("2 ** 53 + 1 less a bit", Due.typed(false, 16, "900719925474099299999999"),
             "+0.9007199254740993e16");
         String middle = Due.middleAbove(Double.MIN_VALUE).unscaledValue().toString().substring(0, 450);
-        DecimalTruth x = Due.typed(false, -323, middle);
+        Run x = Due.typed(false, -323, middle);
         Due.same("1.5 times the least", x.enough(), leastBySearch("0." + middle + "e-323"));
     }
 
@@ -61,7 +65,7 @@ public final class EnoughTest {
                 if (holds(text, digits - 2) && !holds(text, digits - 1)) {
                     found++;
                 }
-                DecimalTruth x = Due.typed(new BigDecimal(text));
+                Run x = Due.typed(new BigDecimal(text));
                 Due.same(text + ", enough()", x.enough(), leastBySearch(text));
                 BigDecimal rounded = Model.rounded(new BigDecimal(text), x.count(0));
                 Due.kept(text + ", enough()", x, Due.text(false, rounded));
@@ -105,7 +109,7 @@ public final class EnoughTest {
         shortens("17976931348623158e292", Due.typed(false, 309, "17976931348623158"),
             "+0.17976931348623158e309");
         String almost = Due.middleAbove(Double.MAX_VALUE).subtract(BigDecimal.ONE).toString();
-        DecimalTruth x = Due.typed(false, 309, almost);
+        Run x = Due.typed(false, 309, almost);
         int n = x.enough();
         Due.same("just not beyond, enough()", n, leastBySearch(almost));
         long largest = Double.doubleToRawLongBits(Double.MAX_VALUE);
@@ -115,7 +119,7 @@ public final class EnoughTest {
     /** Rows are used again: digits of a longer decimal still stand in them behind a shorter one. */
     private static void comparesWithNothingOfEarlierCalls() {
         String[] middles = {"9007199254740993", "9007199254740995", "9007199254740997", "18014398509481986"};
-        DecimalTruth x = new DecimalTruth();
+        Run x = new Run();
         for (int i = 0; i < 8; i++) {
             String middle = middles[i / 2];
             x.set(Double.doubleToRawLongBits(Math.nextUp(Double.MIN_NORMAL)));
@@ -128,35 +132,62 @@ public final class EnoughTest {
     }
 
     private static void isZeroForZero() {
-        shortens("new", new DecimalTruth(), "+0.e0");
+        Due.says("(0 if that is 0)");
+        shortens("new", new Run(), "+0.e0");
         shortens("-0", Due.set(-0.0), "-0.e0");
         shortens("-2e-324", Due.typed(true, -323, "2"), "-0.e0");
         shortens("9e-1001", Due.typed(false, -1000, "9"), "+0.e0");
     }
 
+    /** Half of the least double is the border between 0 and it. */
+    private static void isZeroTillHalfOfTheLeast() {
+        Due.says("(0 if that is 0)");
+        String half = Due.middleAbove(0.0).unscaledValue().toString().substring(0, 500);
+        shortens("just below half of the least", Due.typed(true, -323, half), "-0.e0");
+        Run above = Due.typed(true, -323, half + "9");
+        int n = above.enough();
+        Due.same("just above half of the least, enough()", n, leastBySearch("0." + half + "9e-323"));
+        Due.same("just above half of the least, enough(), nearest()", above.nearest(), 0x8000000000000001L);
+        shortens("2.4e-324", Due.typed(false, -323, "24"), "+0.e0");
+        shortens("2.5e-324", Due.typed(false, -323, "25"), "+0.25e-323");
+        shortens("2.6e-324", Due.typed(false, -323, "26"), "+0.3e-323");
+    }
+
+    private static void shortens800Digits() {
+        Due.says("How many digits are enough");
+        Run x = Due.longest();
+        Due.type(x, Due.repeat('7', 33));
+        shortens("800 digits", x, "+0.44501477170144023e-307");
+        Run many = Due.typed(false, 16, "9007199254740993" + Due.repeat('0', 480) + "1");
+        Due.same("2 ** 53 + 1 and the least bit, enough()", many.enough(), 497);
+        Due.same("2 ** 53 + 1 and the least bit, look(496)", many.look(496), 1);
+    }
+
     private static void roundsAndForgets() {
-        DecimalTruth x = Due.typed(false, 1, "2500");
+        Due.says("It is ROUNDED so then.");
+        Run x = Due.typed(false, 1, "2500");
         Due.same("2.500, enough()", x.enough(), 2);
         x.digit(7);
         Due.kept("2.500, enough(), 7", x, "+0.257e1");
-        DecimalTruth zero = Due.typed(true, 12, "0");
+        Run zero = Due.typed(true, 12, "0");
         Due.same("0, enough()", zero.enough(), 0);
         zero.digit(7);
         Due.kept("clear(true, 12), enough(), 7", zero, "-0.7e0");
-        DecimalTruth tiny = Due.typed(true, -500, "1");
+        Run tiny = Due.typed(true, -500, "1");
         tiny.enough();
         tiny.digit(7);
         Due.kept("1e-501, enough(), 7", tiny, "-0.7e0");
     }
 
     private static void refusesWhatIsBeyond() {
-        DecimalTruth at = Due.typed(Due.middleAbove(Double.MAX_VALUE));
+        Due.says("ArithmeticException: it is BEYOND (it stays).");
+        Run at = Due.typed(Due.middleAbove(Double.MAX_VALUE));
         Due.refused(at, "2 ** 1024 - 2 ** 970, enough()", Due.ARITHMETIC, () -> at.enough());
-        DecimalTruth x = Due.typed(true, 309, "200");
+        Run x = Due.typed(true, 309, "200");
         Due.refused(x, "2e308, enough()", Due.ARITHMETIC, () -> x.enough());
         x.digit(1);
         Due.kept("2e308, enough(), 1", x, "-0.2001e309");
-        DecimalTruth far = Due.typed(false, 1000, "1");
+        Run far = Due.typed(false, 1000, "1");
         Due.refused(far, "1e999, enough()", Due.ARITHMETIC, () -> far.enough());
     }
 }

@@ -95,6 +95,26 @@ final class Model {
         return n;
     }
 
+    int look(int k) {
+        if (k < 0 || k >= digits()) {
+            throw new IndexOutOfBoundsException();
+        }
+        return size.unscaledValue().toString().charAt(k) - '0';
+    }
+
+    int count(int what) {
+        switch (what) {
+            case 0:
+                return digits();
+            case 1:
+                return place();
+            case 2:
+                return minus ? 1 : 0;
+            default:
+                throw new IllegalArgumentException();
+        }
+    }
+
     private boolean hasNearest(BigDecimal other, long bits) {
         double d = Double.parseDouble(other.toString());
         return Double.doubleToRawLongBits(minus ? -d : d) == bits;

@@ -1,16 +1,16 @@
 import java.math.BigDecimal;
 import java.util.Random;
 
-/** Many runs of up to 512 calls against the model, the same ones each time. */
+/** Many runs of 512 calls against the model, the same ones each time. */
 public final class ModelRunsTest {
     private static final int RUNS = 800;
-    private static final int CALLS = 512;
+    /** Every so many calls the whole decimal is looked at, by other objects with the same calls. */
+    private static final int CALLS_TILL_A_LOOK = 150;
 
     private final Random random;
-    private final DecimalTruth x = new DecimalTruth();
+    private final Run x = new Run();
     private final Model model = new Model();
     private final String run;
-    private int calls;
 
     private ModelRunsTest(int seed) {
         random = new Random(seed);
@@ -25,8 +25,8 @@ public final class ModelRunsTest {
     }
 
     private void go() {
-        while (calls < CALLS) {
-            switch (random.nextInt(12)) {
+        while (x.callsLeft() > 0) {
+            switch (random.nextInt(14)) {
                 case 0: set(bits()); break;
                 case 1: clear(random.nextBoolean(), near(400, 1000)); break;
                 case 2: typeSome(); break;
@@ -38,14 +38,10 @@ public final class ModelRunsTest {
                 case 8: nearest(); break;
                 case 9: enough(); break;
                 case 10: fill(); break;
+                case 11: look(random.nextInt(model.digits() + 3) - 1); break;
+                case 12: count(random.nextInt(5) - 1); break;
                 default: digit(random.nextInt(12) - 1); break;
             }
-        }
-    }
-
-    private void look() {
-        if (random.nextInt(4) == 0) {
-            Due.same(run + ", call " + calls + ", what is kept", Due.text(x), model.text());
         }
     }
 
@@ -118,10 +114,14 @@ public final class ModelRunsTest {
     }
 
     private void both(String call, Answer got, Answer want) {
-        calls++;
-        if (calls <= CALLS) {
-            Due.same(run + ", call " + calls + ", " + call, answer(got), answer(want));
-            look();
+        if (x.callsLeft() == 0) {
+            return;
+        }
+        int number = Run.MOST_CALLS - x.callsLeft() + 1;
+        String when = run + ", call " + number + ", " + call;
+        Due.same(when, answer(got), answer(want));
+        if (number % CALLS_TILL_A_LOOK == 0) {
+            Due.kept(when, x, model.text());
         }
     }
 
@@ -165,5 +165,13 @@ public final class ModelRunsTest {
 
     private void enough() {
         both("enough()", x::enough, model::enough);
+    }
+
+    private void look(int k) {
+        both("look(" + k + ")", () -> x.look(k), () -> model.look(k));
+    }
+
+    private void count(int what) {
+        both("count(" + what + ")", () -> x.count(what), () -> model.count(what));
     }
 }

@@ -22,11 +22,12 @@ public final class NearestTest {
         Due.end();
     }
 
-    private static void is(String call, DecimalTruth x, double want) {
+    private static void is(String call, Run x, double want) {
         Due.same(call + ", nearest()", x.nearest(), Double.doubleToRawLongBits(want));
     }
 
     private static void findsKnownOnes() {
+        Due.says("The bits of the NEAREST double.");
         is("0.1", Due.typed(false, 0, "1"), 0.1);
         is("-1e22", Due.typed(true, 23, "1"), -1e22);
         is("123456789.125", Due.typed(false, 9, "123456789125"), 123456789.125);
@@ -74,22 +75,24 @@ public final class NearestTest {
     }
 
     private static void knowsWhatIsBeyond() {
+        Due.says("ArithmeticException: it is BEYOND.");
         BigDecimal limit = Due.middleAbove(Double.MAX_VALUE);
-        DecimalTruth at = Due.typed(limit);
+        Run at = Due.typed(limit);
         Due.refused(at, "2 ** 1024 - 2 ** 970, nearest()", Due.ARITHMETIC, () -> at.nearest());
         is("one less", Due.typed(limit.subtract(BigDecimal.ONE)), Double.MAX_VALUE);
         is("a bit less", Due.typed(limit.subtract(Due.power(-100))), Double.MAX_VALUE);
-        DecimalTruth more = Due.typed(limit.add(Due.power(-100)));
+        Run more = Due.typed(limit.add(Due.power(-100)));
         Due.refused(more, "a bit more, nearest()", Due.ARITHMETIC, () -> more.nearest());
         for (int place = 309; place <= 1000; place++) {
-            DecimalTruth x = Due.typed(true, place, "2");
+            Run x = Due.typed(true, place, "2");
             Due.throwing("2e" + (place - 1) + ", nearest()", Due.ARITHMETIC, () -> x.nearest());
-            DecimalTruth y = Due.typed(false, place, "99");
+            Run y = Due.typed(false, place, "99");
             Due.throwing("99e" + (place - 2) + ", nearest()", Due.ARITHMETIC, () -> y.nearest());
         }
     }
 
     private static void answersForEveryPlace() {
+        Due.says("The bits of the NEAREST double.");
         String[] all = {"1", "9", "17", "49", "123456789012345678901234567890", Due.repeat('9', 60)};
         for (int place = -1000; place <= 308; place++) {
             for (String digits : all) {
@@ -101,38 +104,36 @@ public final class NearestTest {
 
     private static void answersForTheLongestOnes() {
         for (double d : EDGES) {
-            DecimalTruth x = Due.set(d);
-            for (int calls = 1; calls < 500 && x.count(0) < 800; calls++) {
-                x.digit(7);
-            }
-            is(d + " and sevens", x, Double.parseDouble(Due.text(x)));
+            Run x = Due.set(d);
+            Due.type(x, Due.repeat('7', Math.min(400, 800 - x.count(0))));
+            is(d + " and sevens", x, Double.parseDouble(x.kept()));
         }
         for (int place : new int[] {-1000, -999, -700, -330, -325, -324}) {
             is("many nines e" + place, Due.typed(true, place, Due.repeat('9', 500)), -0.0);
         }
-        DecimalTruth lowest = Due.typed(false, -1000, "0" + Due.repeat('9', 500));
+        Run lowest = Due.typed(false, -1000, "0" + Due.repeat('9', 500));
         is("many nines e-1001", lowest, 0.0);
-        DecimalTruth highest = Due.typed(false, 1000, Due.repeat('9', 500));
+        Run highest = Due.typed(false, 1000, Due.repeat('9', 500));
         Due.throwing("many nines e1000, nearest()", Due.ARITHMETIC, () -> highest.nearest());
     }
 
     private static void keepsTheSign() {
         is("-0.3", Due.typed(true, 0, "3"), -0.3);
         is("-0", Due.typed(true, 0, ""), -0.0);
-        DecimalTruth x = Due.set(-0.4);
+        Run x = Due.set(-0.4);
         x.places(0);
         is("-0.4, places(0)", x, -0.0);
     }
 
     private static void changesNothing() {
-        DecimalTruth x = Due.typed(true, 5, "12300");
+        Run x = Due.typed(true, 5, "12300");
         is("12300", x, -12300.0);
         Due.kept("nearest()", x, "-0.123e5");
         x.digit(4);
         Due.kept("nearest(), digit(4)", x, "-0.123004e5");
         is("12300.4", x, -12300.4);
         is("12300.4 again", x, -12300.4);
-        DecimalTruth zero = Due.typed(false, 5, "00");
+        Run zero = Due.typed(false, 5, "00");
         is("0", zero, 0.0);
         zero.digit(4);
         Due.kept("zeros to 0, nearest(), digit(4)", zero, "+0.4e3");

@@ -10,6 +10,7 @@ public final class PlacesTest {
         roundsBeforeTheFirstDigit();
         keepsWhatHasNoMore();
         roundsAtTheOuterPlaces();
+        roundsTheFarthestDigits();
         roundsLongOnes();
         forgetsWhatCame();
         refusesOtherNumbers();
@@ -17,11 +18,12 @@ public final class PlacesTest {
     }
 
     private static void rounds(int place, String digits, int n, String want) {
-        DecimalTruth x = Due.typed(true, place, digits);
+        Run x = Due.typed(true, place, digits);
         Due.rounded(digits + "e" + place + ", places(" + n + ")", x, x.places(n), want);
     }
 
     private static void roundsBehindThePoint() {
+        Due.says("It is ROUNDED to n digits behind the point: how many DIGITS.");
         rounds(2, "1234", 1, "-0.123e2");
         rounds(2, "1236", 1, "-0.124e2");
         rounds(2, "1225", 1, "-0.122e2");
@@ -75,10 +77,28 @@ public final class PlacesTest {
         rounds(-1000, "06", 1001, "-0.1e-1000");
     }
 
+    private static void roundsTheFarthestDigits() {
+        Due.says("It is ROUNDED to n digits behind the point: how many DIGITS.");
+        String digits = Due.repeat('1', 499) + "8";
+        rounds(-1000, "0" + digits, 2000, "-0." + digits + "e-1001");
+        rounds(-1000, "0" + digits, 1501, "-0." + digits + "e-1001");
+        rounds(-1000, "0" + digits, 1500, "-0." + Due.repeat('1', 498) + "2e-1001");
+        rounds(1000, digits, -500, "-0." + digits + "e1000");
+        rounds(1000, digits, -501, "-0." + Due.repeat('1', 498) + "2e1000");
+        rounds(1000, digits, -999, "-0.1e1000");
+        rounds(1000, digits, -1000, "-0.e0");
+        Run full = Due.longest();
+        Due.type(full, Due.repeat('1', 33));
+        Due.same("800 digits, places(1107)", full.places(1107), 800);
+        Due.same("800 digits, places(1106)", full.places(1106), 799);
+        Due.same("799 digits, places(308)", full.places(308), 1);
+        Due.same("1 digit, places(307)", full.places(307), 0);
+    }
+
     private static void roundsLongOnes() {
         for (double d : new double[] {Double.MIN_VALUE, 1e-300, Math.PI, Math.E * 1e10, Double.MAX_VALUE}) {
             for (int n = 1100; n >= -320; n -= 13) {
-                DecimalTruth x = Due.set(d);
+                Run x = Due.set(d);
                 x.places(n);
                 BigDecimal size = new BigDecimal(d).setScale(n, RoundingMode.HALF_EVEN);
                 Due.kept(d + " places(" + n + ")", x, Due.text(false, size));
@@ -87,24 +107,30 @@ public final class PlacesTest {
     }
 
     private static void forgetsWhatCame() {
-        DecimalTruth x = Due.typed(false, 3, "4200");
+        Due.says("or it is set, ROUNDED, cleared: then they are gone");
+        Run x = Due.typed(false, 3, "4200");
         Due.same("places(2000) with zeros in mind", x.places(2000), 2);
         x.digit(1);
         Due.kept("zeros in mind, places(2000), digit(1)", x, "+0.421e3");
-        DecimalTruth zero = Due.typed(true, 9, "");
+        Run zero = Due.typed(true, 9, "");
         Due.same("places(4) of 0", zero.places(4), 0);
         zero.digit(1);
         Due.kept("clear(true, 9), places(4), digit(1)", zero, "-0.1e0");
-        DecimalTruth gone = Due.typed(true, 9, "1");
+        Run gone = Due.typed(true, 9, "1");
         gone.places(-20);
         gone.digit(1);
         Due.kept("1e8, places(-20), digit(1)", gone, "-0.1e0");
     }
 
     private static void refusesOtherNumbers() {
-        DecimalTruth x = Due.typed(true, 0, "123");
+        Due.says("IllegalArgumentException: n is not -1000..2000.");
+        Run x = Due.typed(true, 0, "123");
         for (int n : new int[] {-1001, 2001, Integer.MIN_VALUE, Integer.MAX_VALUE}) {
             Due.refused(x, "places(" + n + ")", Due.ILLEGAL, () -> x.places(n));
+        }
+        for (int n : new int[] {-1000, -999, 0, 1999, 2000}) {
+            Run taken = Due.typed(true, 0, "123");
+            Due.same("0.123, places(" + n + ")", taken.places(n), n > 0 ? 3 : 0);
         }
     }
 }

@@ -6,6 +6,7 @@ public final class SetTest {
         spellsKnownDoubles();
         spellsEdges();
         spellsAllPowersOfTwo();
+        spellsTheLongest();
         keepsTheSign();
         forgetsWhatCame();
         refusesWhatIsNoDouble();
@@ -13,7 +14,7 @@ public final class SetTest {
     }
 
     private static void spells(double d) {
-        DecimalTruth x = new DecimalTruth();
+        Run x = new Run();
         BigDecimal size = new BigDecimal(d).abs();
         boolean minus = Double.doubleToRawLongBits(d) < 0;
         int digits = size.signum() == 0 ? 0 : size.stripTrailingZeros().precision();
@@ -22,7 +23,8 @@ public final class SetTest {
     }
 
     private static void spellsKnownDoubles() {
-        DecimalTruth x = Due.set(0.1);
+        Due.says("The DECIMAL is what a DOUBLE is, exactly: how many DIGITS.");
+        Run x = Due.set(0.1);
         Due.kept("set(0.1)", x, "+0.1000000000000000055511151231257827021181583404541015625e0");
         x.set(Double.doubleToRawLongBits(-1500.0));
         Due.kept("set(-1500)", x, "-0.15e4");
@@ -58,8 +60,21 @@ public final class SetTest {
         }
     }
 
+    /** Few as well as many digits follow on a full row. */
+    private static void spellsTheLongest() {
+        Run x = Due.longest();
+        Due.type(x, Due.repeat('8', 33));
+        Due.same("set(4.0) on 800 digits", x.set(Double.doubleToRawLongBits(4.0)), 1);
+        Due.kept("800 digits, set(4.0)", x, "+0.4e1");
+        Due.same("set(the longest)", x.set(0x001FFFFFFFFFFFFFL), 767);
+        Due.kept("set(the longest)", x, Due.longest().kept());
+        Due.same("set(0)", x.set(0L), 0);
+        Due.kept("set(0)", x, "+0.e0");
+    }
+
     private static void keepsTheSign() {
-        DecimalTruth x = new DecimalTruth();
+        Due.says("A DOUBLE ...: sign, and size");
+        Run x = new Run();
         x.set(0x8000000000000000L);
         Due.kept("set(-0)", x, "-0.e0");
         x.set(0L);
@@ -67,7 +82,8 @@ public final class SetTest {
     }
 
     private static void forgetsWhatCame() {
-        DecimalTruth x = Due.typed(false, 3, "700");
+        Due.says("or it is set, ROUNDED, cleared: then they are gone");
+        Run x = Due.typed(false, 3, "700");
         x.set(Double.doubleToRawLongBits(0.5));
         Due.same("digit(2) behind 0.5", x.digit(2), 2);
         Due.kept("zeros in mind, set(0.5), digit(2)", x, "+0.52e0");
@@ -78,12 +94,20 @@ public final class SetTest {
     }
 
     private static void refusesWhatIsNoDouble() {
-        DecimalTruth x = Due.set(-2.5);
-        Due.refused(x, "set(infinite)", Due.ILLEGAL, () -> x.set(0x7FF0000000000000L));
-        Due.refused(x, "set(-infinite)", Due.ILLEGAL, () -> x.set(0xFFF0000000000000L));
-        Due.refused(x, "set(NaN)", Due.ILLEGAL, () -> x.set(0x7FF8000000000000L));
-        Due.refused(x, "set(least NaN)", Due.ILLEGAL, () -> x.set(0x7FF0000000000001L));
-        Due.refused(x, "set(-1L)", Due.ILLEGAL, () -> x.set(-1L));
-        Due.refused(x, "set(Long.MAX_VALUE)", Due.ILLEGAL, () -> x.set(Long.MAX_VALUE));
+        Due.says("IllegalArgumentException: it is infinite, or no number.");
+        long[] sizes = {
+            0x7FF0000000000000L, 0x7FF0000000000001L, 0x7FF7FFFFFFFFFFFFL, 0x7FF8000000000000L,
+            0x7FF8000000000001L, 0x7FFFFFFFFFFFFFFFL
+        };
+        Run x = Due.set(-2.5);
+        Run zerosInMind = Due.typed(false, 4, "7000");
+        for (long size : sizes) {
+            for (long bits : new long[] {size, size | 0x8000000000000000L}) {
+                String call = "set(0x" + Long.toHexString(bits) + ")";
+                Due.refused(x, "-2.5, " + call, Due.ILLEGAL, () -> x.set(bits));
+                Due.refused(zerosInMind, "7000, " + call, Due.ILLEGAL, () -> zerosInMind.set(bits));
+            }
+        }
+        Due.same("set(largest) after all these", x.set(0x7FEFFFFFFFFFFFFFL), 309);
     }
 }
