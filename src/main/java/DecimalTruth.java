@@ -385,6 +385,7 @@ public final class DecimalTruth {
             }
         }
 
+        /** The decimal's place is that of a double (who calls has looked), so each digit has a group. */
         void load(Decimal decimal) {
             Arrays.fill(rows, 0);
             int start = BEFORE_POINT * DIGITS_EACH - decimal.place;
